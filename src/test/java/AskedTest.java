@@ -6,19 +6,23 @@ public final class AskedTest {
     promise12OfKind();
     promise13OfThing();
     promise13LyingOn();
+    promise13BesideIsNotOn();
     promise14Hinders();
     promise14HalfSeen();
     promise14LiftOfDirectTangles();
     promise15Cup();
     promise15Fingers();
     promise15FingersAtWalls();
+    promise15FingersSideBySide();
     promise15Magnet();
     promise16Ticks();
     promise17Clock();
     promise18Seen();
     promise18ShadowOverTheWholeSide();
+    promise18ShadowInAllTheBin();
     promise19OfBox();
     promise20Many();
+    promise20GreatestTop();
     wrongArguments();
     Check.end("AskedTest");
   }
@@ -87,6 +91,30 @@ public final class AskedTest {
     cell.fall(1, 2, 1);
     Check.same("on 0, with a gap", cell.ofThing(0, 6), 2 + 16);
     Check.same("on 3", cell.ofThing(3, 6), 0);
+  }
+
+  private static void promise13BesideIsNotOn() {
+    int[][] sides = {{1, 2}, {4, 2}, {2, 1}, {2, 4}, {3, 1}, {3, 4}, {1, 3}, {4, 3}, {1, 1}, {4, 4}};
+    PickCell cell = new PickCell();
+    cell.kind(2, 2, 1, 1, 0, 0);
+    cell.kind(1, 1, 4, 1, 0, 0);
+    cell.kind(1, 1, 1, 1, 0, 0);
+    cell.fall(0, 2, 2);
+    for (int i = 0; i < 5; i++) {
+      cell.fall(1, sides[2 * i][0], sides[2 * i][1]);
+      cell.fall(1, sides[2 * i + 1][0], sides[2 * i + 1][1]);
+    }
+    Check.same("nothing lies on it", cell.ofThing(0, 6), 0);
+    PickCell higher = new PickCell();
+    higher.kind(2, 2, 1, 1, 0, 0);
+    higher.kind(1, 1, 4, 1, 0, 0);
+    higher.fall(0, 2, 2);
+    for (int i = 0; i < 4; i++) {
+      higher.fall(1, sides[i][0], sides[i][1]);
+      higher.fall(1, sides[i][0], sides[i][1]);
+    }
+    Check.same("nothing higher beside it lies on it", higher.ofThing(0, 6), 0);
+    Check.same("it is free", higher.ahead(0), 0);
   }
 
   private static void promise14Hinders() {
@@ -216,6 +244,34 @@ public final class AskedTest {
     Check.same("beside a thing in y", cell.force(5, 1), 0.0);
   }
 
+  // Towers at all cells around one of 2 by 2: one in x takes the room in x, one more that in y.
+  private static void promise15FingersSideBySide() {
+    for (int cell = 0; cell < 36; cell++) {
+      int x = cell % 6;
+      int y = cell / 6;
+      boolean isOnIt = (x == 2 || x == 3) && (y == 2 || y == 3);
+      boolean isBesideInX = (x == 1 || x == 4) && (y == 2 || y == 3);
+      boolean isBesideInY = (y == 1 || y == 4) && (x == 2 || x == 3);
+      if (!isOnIt) {
+        String place = " and a tower at " + x + ", " + y;
+        Check.same("left" + place, fingersBeside(1, 3, x, y), isBesideInY ? 0.0 : 22.0);
+        Check.same("right" + place, fingersBeside(4, 2, x, y), isBesideInY ? 0.0 : 22.0);
+        Check.same("above" + place, fingersBeside(3, 1, x, y), isBesideInX ? 0.0 : 22.0);
+        Check.same("below" + place, fingersBeside(2, 4, x, y), isBesideInX ? 0.0 : 22.0);
+      }
+    }
+  }
+
+  private static double fingersBeside(int x, int y, int otherX, int otherY) {
+    PickCell cell = new PickCell();
+    cell.kind(2, 2, 1, 1, 1, 0);
+    cell.kind(1, 1, 4, 1, 1, 0);
+    cell.fall(0, 2, 2);
+    cell.fall(1, x, y);
+    cell.fall(1, otherX, otherY);
+    return cell.force(0, 1);
+  }
+
   private static void promise15Magnet() {
     PickCell cell = new PickCell();
     cell.kind(1, 1, 4, 1, 2, 0);
@@ -301,6 +357,26 @@ public final class AskedTest {
     }
   }
 
+  private static void promise18ShadowInAllTheBin() {
+    for (int tower = 0; tower < 36; tower++) {
+      for (int stone = 0; stone < 36; stone++) {
+        int way = Math.abs(tower % 6 - stone % 6) + Math.abs(tower / 6 - stone / 6);
+        if (way > 0) {
+          PickCell cell = new PickCell();
+          cell.kind(1, 1, 1, 1, 0, 0);
+          cell.kind(1, 1, 4, 1, 0, 0);
+          cell.fall(0, stone % 6, stone / 6);
+          cell.fall(1, tower % 6, tower / 6);
+          cell.fall(1, tower % 6, tower / 6);
+          String text = "stone at " + stone + ", tower at " + tower;
+          Check.same(text, cell.seen(stone % 6, stone / 6), way == 1 ? -1 : 0);
+          Check.same(text + ", the tower", cell.seen(tower % 6, tower / 6), 2);
+          Check.same(text + ", by the stone", cell.ofThing(0, 7), way == 1 ? 0 : 1);
+        }
+      }
+    }
+  }
+
   private static void promise19OfBox() {
     PickCell cell = new PickCell();
     cell.kind(1, 1, 1, 2, 0, 9);
@@ -347,6 +423,19 @@ public final class AskedTest {
     cell.put(0);
     int[] put = {3, 3, 2, 2, 1, -1, 2, 4, 3, 3, 0, 1, 4};
     many(cell, put);
+  }
+
+  private static void promise20GreatestTop() {
+    for (int place = 0; place < 36; place++) {
+      PickCell cell = new PickCell();
+      cell.kind(1, 1, 3, 1, 0, 0);
+      cell.kind(1, 1, 1, 1, 0, 0);
+      cell.fall(0, place % 6, place / 6);
+      cell.fall(1, 5 - place % 6, place / 6);
+      Check.same("the greatest TOP at " + place, cell.many(12), 3);
+      Check.same("pick(0, 0)", cell.pick(0, 0), 0);
+      Check.same("the other one is left", cell.many(12), 1);
+    }
   }
 
   private static void many(PickCell cell, int[] due) {

@@ -53,10 +53,17 @@ final class Check {
     try {
       got = "" + call.answer();
     } catch (RuntimeException e) {
-      got = e.getClass().getName();
+      got = thrownName(e);
     }
     same(text, got, due.getName());
     same("all that can be asked after " + text, portrait(cell), before);
+  }
+
+  /** What was thrown; told apart, if it came not by a throw in PickCell itself. */
+  static String thrownName(RuntimeException e) {
+    String name = e.getClass().getName();
+    String place = e.getStackTrace()[0].getClassName();
+    return place.equals("PickCell") || place.startsWith("PickCell$") ? name : name + " of " + place;
   }
 
   /** All that can be asked of a cell, as a text. */

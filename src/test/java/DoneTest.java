@@ -125,12 +125,29 @@ public final class DoneTest {
     other.back();
     drawTo(other, 1, 4);
     Check.same("draw 7 and grip 6", other.pick(0, 1), -2);
+    gripsBesideTheHalf();
     PickCell strong = new PickCell();
     strong.kind(1, 1, 1, 1, 2, 0);
     strong.fall(0, 1, 1);
     drawTo(strong, 0, 4);
     Check.same("draw 7 and grip 7 at most", strong.pick(0, 2), 0);
     Check.same("the draw is 7", strong.many(9), 7);
+  }
+
+  // Force 22 of a weight of 19 gives 4.63, which becomes 5; of a weight of 20, 4.4 and 4.
+  private static void gripsBesideTheHalf() {
+    PickCell cell = new PickCell();
+    cell.kind(1, 1, 1, 1, 2, 0);
+    cell.kind(1, 1, 1, 19, 1, 0);
+    cell.kind(1, 1, 1, 20, 1, 0);
+    for (int kind = 0; kind < 3; kind++) {
+      cell.fall(kind, 2 * kind, 2);
+    }
+    drawTo(cell, 0, 2);
+    Check.same("draw 5 and grip 4.63", cell.pick(1, 1), 0);
+    cell.back();
+    drawTo(cell, 0, 2);
+    Check.same("draw 5 above grip 4.4", cell.pick(2, 1), -2);
   }
 
   private static void drawTo(PickCell cell, int thing, int draw) {
@@ -276,6 +293,9 @@ public final class DoneTest {
     Check.same("in the box 1", cell.ofThing(3, 5), 3);
     cell.pick(2, 0);
     Check.same("put(0), third", cell.put(0), 3);
+    cell.fall(0, 5, 5);
+    cell.pick(4, 0);
+    Check.same("put(0), two of that kind are in, the first one too", cell.put(0), -2);
     Check.same("the box 0 is full", cell.many(4), 1);
   }
 

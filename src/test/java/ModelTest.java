@@ -189,7 +189,7 @@ public final class ModelTest {
     try {
       got = "" + one.answer();
     } catch (RuntimeException e) {
-      got = e.getClass().getName();
+      got = Check.thrownName(e);
     }
     Check.same(got.equals(due) ? call : told.toString(), got, due);
   }

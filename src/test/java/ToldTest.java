@@ -154,6 +154,10 @@ public final class ToldTest {
     Check.same("those of 0", cell.ofThing(0, 8), 0);
     Check.same("those of 1", cell.ofThing(1, 8), 4);
     Check.same("those of 2", cell.ofThing(2, 8), 2);
+    cell.tangle(0, 2);
+    Check.same("shake(2)", cell.shake(2), 2);
+    Check.same("those of 0 then", cell.ofThing(0, 8), 0);
+    Check.same("those of 1 then", cell.ofThing(1, 8), 0);
     Check.noSuch(cell, "shake(3)", () -> cell.shake(3));
     Check.noSuch(cell, "shake(-1)", () -> cell.shake(-1));
     Check.same("pick(0, 0)", cell.pick(0, 0), 0);
@@ -189,6 +193,7 @@ public final class ToldTest {
     Check.same("2 is open", cell.ofBox(2, 3), 1);
     Check.badState(cell, "a fifth box", () -> cell.box(1));
     Check.badArgument(cell, "a fifth box for nothing", () -> cell.box(0));
+    Check.badArgument(cell, "box(100000) of 5 kinds", () -> cell.box(100000));
     for (int kind = 0; kind < 5; kind++) {
       cell.fall(kind, kind, 0);
       Check.same("wouldFit in 2, kind " + kind, cell.wouldFit(kind, 2), kind % 2 == 0 ? 0 : -2);

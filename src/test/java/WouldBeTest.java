@@ -6,6 +6,7 @@ public final class WouldBeTest {
     promise22NextOfEqualOnes();
     promise23WouldFit();
     promise24Digest();
+    promise24DigestOfAll();
     nothingIsChanged();
     Check.end("WouldBeTest");
   }
@@ -44,6 +45,19 @@ public final class WouldBeTest {
     Check.same("ahead(2): 4, and 3 on it", cell.ahead(2), 16 + 8);
     Check.same("ahead(4)", cell.ahead(4), 8);
     Check.same("ahead(3)", cell.ahead(3), 0);
+    theFirstOneAboveOthers();
+  }
+
+  private static void theFirstOneAboveOthers() {
+    PickCell cell = new PickCell();
+    cell.kind(1, 1, 1, 1, 0, 0);
+    cell.kind(2, 1, 1, 1, 0, 0);
+    cell.fall(1, 1, 1);
+    Check.same("pick(0, 0)", cell.pick(0, 0), 0);
+    cell.fall(0, 2, 1);
+    cell.back();
+    cell.fall(0, 1, 1);
+    Check.same("ahead(1): 0, and 2 on it", cell.ahead(1), 1 + 4);
   }
 
   private static void promise22Next() {
@@ -136,6 +150,61 @@ public final class WouldBeTest {
       0, 0, 2, 1, -1, -1, 0,
     };
     Check.same("digest() with the thing in the arm", cell.digest(), chain(9609L, picked));
+  }
+
+  // As the document tells it, of a cell with something of everything.
+  private static void promise24DigestOfAll() {
+    PickCell cell = new PickCell();
+    cell.kind(2, 1, 1, 2, 0, 1);
+    cell.kind(1, 1, 2, 3, 2, 9);
+    for (int x = 0; x < 4; x++) {
+      cell.fall(0, x, 2);
+    }
+    cell.fall(1, 5, 5);
+    cell.fall(0, 0, 5);
+    cell.tangle(0, 1);
+    cell.box(22);
+    cell.box(10);
+    cell.pick(5, 0);
+    cell.put(0);
+    cell.box(1);
+    cell.close(2);
+    cell.pick(3, 0);
+    Check.same("ahead(0)", cell.ahead(0), 2 + 4);
+    Check.same("wouldFit(0, 0)", cell.wouldFit(0, 0), -3);
+    Check.same("wouldFit(0, 1)", cell.wouldFit(0, 1), -2);
+    Check.same("wouldFit(0, 2)", cell.wouldFit(0, 2), -1);
+    Check.same("digest()", cell.digest(), digestOf(cell));
+  }
+
+  private static long digestOf(PickCell cell) {
+    long d = 9609L;
+    for (int what = 0; what <= 12; what++) {
+      d = d * 31 + cell.many(what);
+    }
+    d = d * 31 + Math.round(cell.clock() * 4);
+    for (int kind = 0; kind < cell.many(0); kind++) {
+      d = d * 31 + cell.ofKind(kind, 6);
+      d = d * 31 + cell.next(kind);
+    }
+    for (int thing = 0; thing < cell.many(1); thing++) {
+      for (int what = 0; what <= 9; what++) {
+        d = d * 31 + cell.ofThing(thing, what);
+      }
+      for (int tool = 0; tool <= 2; tool++) {
+        d = d * 31 + cell.hinders(thing, tool);
+      }
+      d = d * 31 + cell.ahead(thing);
+    }
+    for (int box = 0; box < cell.many(3); box++) {
+      for (int what = 0; what <= 5; what++) {
+        d = d * 31 + cell.ofBox(box, what);
+      }
+      for (int thing = 0; thing < cell.many(1); thing++) {
+        d = d * 31 + cell.wouldFit(thing, box);
+      }
+    }
+    return d;
   }
 
   private static long chain(long start, int[] values) {
