@@ -2,18 +2,22 @@
 public final class ModelTest {
   private static final int[] EDGES = {Integer.MIN_VALUE, Integer.MAX_VALUE, -1, 6, 12, 13, 100000};
 
+  /** The document promises nothing of an object after so many calls. */
+  private static final int MOST_CALLS = 512;
+
   private final PickCell cell = new PickCell();
   private final Model model = new Model();
   private final StringBuilder told = new StringBuilder();
   private long state;
+  private int calls = 0;
 
   private ModelTest(long start) {
     state = start;
   }
 
   public static void main(String[] args) {
-    for (int run = 0; run < 800; run++) {
-      new ModelTest(7919L * run + 17).run(run % 4);
+    for (int run = 0; run < 560; run++) {
+      new ModelTest(7919L * run + 17).run(run % 4, run % 7 == 0 ? MOST_CALLS : 150);
     }
     Check.end("ModelTest");
   }
@@ -32,7 +36,7 @@ public final class ModelTest {
     return chance == 1 || below < 1 ? below + random(2) : random(below);
   }
 
-  private void run(int style) {
+  private void run(int style, int length) {
     int kinds = 1 + random(5);
     for (int i = 0; i < kinds; i++) {
       answer(0, style);
@@ -40,20 +44,21 @@ public final class ModelTest {
     for (int i = 0; i < 3 + random(9); i++) {
       answer(1, style);
     }
-    for (int i = 0; i < 130; i++) {
-      answer(random(40), style);
-      if (i % 10 == 0) {
+    while (calls < length) {
+      if (calls % 10 == 0) {
         both("digest()", cell::digest, model::digest);
+      } else {
+        answer(random(40), style);
       }
     }
   }
 
   private void answer(int call, int style) {
-    int things = cell.many(1);
+    int things = model.many(1);
     int thing = number(things);
     int tool = number(3);
-    int box = number(cell.many(3));
-    int kind = number(cell.many(0));
+    int box = number(model.many(3));
+    int kind = number(model.many(0));
     if (call < 5) {
       tell(call, style, thing, number(things), kind);
     } else if (call < 13) {
@@ -77,8 +82,8 @@ public final class ModelTest {
 
   // A thing that can be picked, if there is one: else most picks would be hindered.
   private int free(int otherwise) {
-    for (int i = 0; i < cell.many(0); i++) {
-      int next = cell.next((i + otherwise & 7) % cell.many(0));
+    for (int i = 0; i < model.many(0); i++) {
+      int next = model.next((i + otherwise & 7) % model.many(0));
       if (next >= 0) {
         return next / 3;
       }
@@ -116,7 +121,7 @@ public final class ModelTest {
       return;
     }
     int limit = 1;
-    for (int i = 0; i < cell.many(0); i++) {
+    for (int i = 0; i < model.many(0); i++) {
       limit *= 10;
     }
     int order = style == 3 ? number(limit) : number(limit) % 44444;
@@ -178,6 +183,7 @@ public final class ModelTest {
   }
 
   private void both(String call, Check.Call one, Check.Call other) {
+    calls++;
     told.append("\n  ").append(call);
     String due;
     try {

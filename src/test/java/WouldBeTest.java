@@ -7,7 +7,6 @@ public final class WouldBeTest {
     promise23WouldFit();
     promise24Digest();
     promise24DigestOfAll();
-    nothingIsChanged();
     Check.end("WouldBeTest");
   }
 
@@ -213,19 +212,5 @@ public final class WouldBeTest {
       d = d * 31 + value;
     }
     return d;
-  }
-
-  private static void nothingIsChanged() {
-    PickCell cell = new PickCell();
-    cell.kind(1, 1, 1, 3, 0, 2);
-    cell.fall(0, 3, 3);
-    cell.fall(0, 3, 3);
-    cell.box(2);
-    String before = Check.portrait(cell);
-    cell.ahead(0);
-    cell.next(0);
-    cell.wouldFit(0, 0);
-    cell.digest();
-    Check.same("all that can be asked", Check.portrait(cell), before);
   }
 }
