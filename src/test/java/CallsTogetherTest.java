@@ -106,8 +106,10 @@ public final class CallsTogetherTest {
         ticks(0..2, 1): 1.75 0.75 3.5
         back(): !State
         person(true, false): false
+        next(0..1): -1 -1
         pick(1, 1): 5
         person(false, true): true
+        next(0..1): -1 4
         clock(): 17.75
         pick(1, 1): 0
         clock(): 19.25
@@ -126,6 +128,9 @@ public final class CallsTogetherTest {
         clock(): 53.25
         hinders(0..3, 0): 1 -1 1 0
         back(): 6
+        ticks(1, 0..2): 17.0 17.0 1.0
+        person(false, false): false
+        ticks(1, 0..2): 8.5 8.5 0.5
         digest()
         """);
   }
